@@ -35,6 +35,10 @@ public final class FuzzTest {
         TextMaker maker = new TextMaker(chance);
         String text = "";
         do {
+            if (chance.nextInt(8) == 0) {
+                text = maker.edgeText();
+                continue;
+            }
             int slip = chance.nextInt(3) == 0 ? 5 + chance.nextInt(60) : 0;
             text = maker.text(2 + chance.nextInt(40), slip);
             if (chance.nextInt(4) == 0) {
@@ -75,7 +79,7 @@ public final class FuzzTest {
     }
 
     private static void runs(long seed, LockKeepers x, Oracle o, Random chance, int[] ends) {
-        for (int d = 0; d < o.duty(-1, 0); d++) {
+        for (int d = 0; d < Math.min(o.duty(-1, 0), 6); d++) {
             int fuel = chance.nextInt(3) == 0 ? chance.nextInt(60) : chance.nextInt(2000);
             int a = chance.nextInt(14);
             int b = chance.nextInt(4) == 0 ? chance.nextInt() : chance.nextInt(3);

@@ -123,7 +123,7 @@ final class TextMaker {
     private void statement() {
         room--;
         boolean deep = nests > 6 || room < 2;
-        switch (below(deep ? 16 : 34)) {
+        switch (below(deep ? 16 : 37)) {
             case 0: case 1: put("note"); e(2); put(";"); break;
             case 2: variable(); break;
             case 3: assign(); break;
@@ -143,8 +143,41 @@ final class TextMaker {
             case 23: case 24: put("hold"); small(); block(); break;
             case 25: case 26: put("ensure"); e(2); block(); break;
             case 27: case 28: case 29: case 30: trial(); break;
-            default: later(); break;
+            case 31: case 32: case 33: later(); break;
+            default: passage(); break;
         }
+    }
+
+    /** Orders on one held lock, most of which can be done. */
+    private void passage() {
+        String lock = "" + below(3);
+        put("hold", lock, "{");
+        nests++;
+        for (int i = 2 + below(6); i > 0; i--) {
+            boolean tried = !oneIn(4);
+            if (tried) {
+                put("try", "{");
+            }
+            String side = "" + below(2);
+            switch (below(7)) {
+                case 0: case 1: put("sluice", lock, ",", side, ",", "" + below(60), ";"); break;
+                case 2: case 3: put("open", lock, ",", side, ";"); break;
+                case 4: put("shut", lock, ",", side, ";"); break;
+                default: put("sail", "" + below(4), ",", side, ";"); break;
+            }
+            if (tried) {
+                put("}", "mend", "any", "{");
+                if (oneIn(3)) {
+                    put("note", "kind", ";");
+                }
+                put("}");
+            }
+        }
+        if (oneIn(3)) {
+            statement();
+        }
+        nests--;
+        put("}");
     }
 
     private void variable() {
@@ -292,14 +325,10 @@ final class TextMaker {
     }
 
     private void later() {
-        if (oneIn(8)) {
-            String name = fresh();
-            put("each", name, "from", "1", "to", "" + (38 + below(5)), "{", "later");
+        boolean many = oneIn(8);
+        if (many) {
+            put("each", fresh(), "from", "1", "to", "" + (38 + below(5)), "{");
             nests++;
-            block();
-            nests--;
-            put("}");
-            return;
         }
         List<String> outside = new ArrayList<>(labels);
         put("later");
@@ -309,6 +338,86 @@ final class TextMaker {
         block();
         labels.clear();
         labels.addAll(outside);
+        if (many) {
+            nests--;
+            put("}");
+        }
+    }
+
+    /** A text at the edges of what is allowed: NESTS, DUTIES, parameters, variables. */
+    String edgeText() {
+        tokens.clear();
+        int duties = oneIn(2) ? 1 + below(3) : 28 + below(5);
+        for (int d = 0; d < duties; d++) {
+            put("duty", oneIn(40) ? "d0" : "d" + d, "(");
+            int count = oneIn(3) ? 6 + below(4) : below(3);
+            for (int i = 0; i < count; i++) {
+                put(i > 0 ? "," : "\n", oneIn(40) ? "p0" : "p" + i);
+            }
+            put(")", "{");
+            if (oneIn(4)) {
+                put("d" + below(34), "(");
+                for (int i = below(3); i > 0; i--) {
+                    put("1", i > 1 ? "," : " ");
+                }
+                put(")", ";");
+            }
+            int more = oneIn(duties > 3 ? 20 : 2) ? 14 + below(12) : 0;
+            for (int i = 0; i < more; i++) {
+                put("var", oneIn(60) ? "v0" : "v" + i, "=", oneIn(60) ? "v" + (i + 1) : "1", ";");
+            }
+            if (duties <= 3 || oneIn(9)) {
+                deepStatement(below(2) + 2);
+            }
+            put("}");
+        }
+        return joined();
+    }
+
+    /** There are so many NESTS around, more or less. */
+    private void deepStatement(int around) {
+        if (around > 4 + below(14)) {
+            put("note");
+            deepE(around);
+            put(";");
+            return;
+        }
+        switch (below(8)) {
+            case 0: put("while", "0", "{"); break;
+            case 1: put("{"); break;
+            case 2: put("later", "{"); break;
+            case 3: put("hold", "("); deepE(around + 1); put(")", "{"); break;
+            case 4: put("try", "{", "}", "always", "{"); break;
+            case 5: put("l" + below(30), ":", "repeat", "{"); break;
+            case 6: put("choose", "1", "{", "when", "2", "{"); break;
+            default: put("if", "1", "{", "}", "else", "{"); break;
+        }
+        int opened = tokens.size();
+        deepStatement(around + 1);
+        closeFor(opened);
+    }
+
+    private void closeFor(int opened) {
+        put("}");
+        if (opened > 1 && tokens.get(opened - 2).equals("repeat")) {
+            put("until", "1", ";");
+        } else if (opened > 2 && tokens.get(opened - 3).equals("when")) {
+            put("}");
+        }
+    }
+
+    private void deepE(int around) {
+        if (around > 12 + below(4)) {
+            put("1");
+            return;
+        }
+        switch (below(5)) {
+            case 0: put("-"); deepE(around + 1); break;
+            case 1: put("(", "not"); deepE(around + 2); put(")"); break;
+            case 2: put("level", "("); deepE(around + 1); put(")"); break;
+            case 3: put("d0", "("); deepE(around + 1); put(")"); break;
+            default: put("("); deepE(around + 1); put(")", "+", "(", "1", ")"); break;
+        }
     }
 
     private void call(int depth) {
