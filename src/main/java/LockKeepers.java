@@ -1868,7 +1868,7 @@ public final class LockKeepers {
         int lock;
         int returnTo;
         int returnPlace;
-        /** What the machine was WITHIN ahead of what it is within by this part. */
+        /** What the machine was WITHIN when the part began, and is again when what is due is done. */
         int outerWithin;
         /** The WAY that waits till what is due is done. */
         final Way kept = new Way();
@@ -2068,11 +2068,11 @@ public final class LockKeepers {
                 case Book.DIFFERENT: push(left != right ? 1 : 0); break;
                 case Book.LESS: push(left < right ? 1 : 0); break;
                 case Book.AT_MOST: push(left <= right ? 1 : 0); break;
-                default: part(op, left, right); break;
+                default: divide(op, left, right); break;
             }
         }
 
-        private void part(int op, int left, int right) {
+        private void divide(int op, int left, int right) {
             if (right == 0) {
                 trouble(1);
             } else {
@@ -2323,7 +2323,6 @@ public final class LockKeepers {
         private void keepWay(Part part, int phase, int target) {
             part.kept.copy(way);
             part.phase = phase;
-            part.outerWithin = within;
             if (way.sort == Way.TROUBLE) {
                 within = way.number;
             }

@@ -43,6 +43,7 @@ public final class PromisesTest {
         runCauses();
         runDeep();
         runFuel();
+        runLongAndAgain();
         runOver();
         told();
         log();
@@ -303,6 +304,9 @@ public final class PromisesTest {
         // a - ends with its UNIT, a not with its NOT
         fine("duty f(){" + times("{", 12) + "note -1-1--1+(1);note not 1 and not 1 or(1);" + times("}", 13));
         faulty("duty f(){" + times("{", 12) + "note -(1", 3, 9 + 12 + 6);
+        // all of them behind one another
+        fine("duty f(){" + times("{", 12) + times("{}", 20) + times("note gate(1,1)+f()+(1);", 20) + times("}", 13));
+        fine("duty f(){" + times("choose 1{when any{}other{}}", 20) + times("try{}mend any{}always{}", 20) + "}");
     }
 
     private static void readFaultsOfNames() {
@@ -316,6 +320,7 @@ public final class PromisesTest {
         faultyBody("while 1{x:repeat{try{^x:each i from 1 to 1{}}always{}}until 1;}}", 4);
         fine("duty f(){{var c=1;}{var c=2;}var c=3;}");
         fine("duty f(){x:while 1{}x:while 1{later{x:while 1{leave x;}}}}");
+        fine("duty f(){x:while 1{while 1{later{}later{later{}}leave;again x;}again;leave x;}}");
         fine("duty f(){each i from 1 to 2{}each i from 1 to 2{}always{note i;}}duty g(i){}");
         faultyBody("note ^c;}", 5);
         faultyBody("^c=1;}", 5);
@@ -391,6 +396,9 @@ public final class PromisesTest {
         Check.due("takes its place", x.duty(-1, 0), 2);
         x.run(0, 0, 0, 10);
         Check.due("the new answer", x.told(1), 6);
+        Check.due("the same text again", Check.read(x, "duty  g(){answer 6;}duty h(){}"), 0);
+        Check.due("with a fault in a NEST", Check.read(x, "duty g(){{{{((-(1"), 2);
+        Check.due("and all NESTS free then", Check.read(x, "duty g(){" + times("{", 13) + times("}", 14)), 0);
     }
 
     // ---- promises 5 and 6
@@ -439,6 +447,15 @@ public final class PromisesTest {
         ways("a=a/-2;", END | TROUBLE);
         ways("a=a/2/a;", END | TROUBLE);
         ways("a=1 or f();", END | TROUBLE);
+        String[] joined = {"f() or 1", "f() and 1", "1 and f()", "f()==1", "1<f()", "f()+1", "1-f()", "f()*2", "2*f()",
+            "f()/2", "not f()", "-f()", "(f())", "main(f(),1)", "a/b or 1"};
+        for (String e : joined) {
+            ways("a=" + e + ";", END | TROUBLE);
+        }
+        String[] safe = {"1 or 2", "1 and 2", "not 1", "-1", "1==2", "1<2", "1+2", "2*3", "(a)", "a/2*b%3", "kind or cause"};
+        for (String e : safe) {
+            ways("a=" + e + ";", END);
+        }
         ways("answer;", ANSWER);
         ways("answer 1;", ANSWER);
         ways("answer f();", ANSWER | TROUBLE);
@@ -465,6 +482,9 @@ public final class PromisesTest {
         ways("stop;later{answer;}", ANSWER);
         ways("stop;later{fail 1;later{answer;}}", ANSWER | TROUBLE);
         ways("stop;later{}", 0);
+        LockKeepers x = with("duty f(){stop;later{answer;fail 1;}}duty g(){}");
+        Check.due("ways of a duty with a later", x.duty(0, 3), ANSWER);
+        Check.due("ways of the next one", x.duty(1, 3), END);
         ways("answer;if 1{while 1{later{fail 1;}}}", ANSWER | TROUBLE);
     }
 
@@ -476,12 +496,15 @@ public final class PromisesTest {
         ways("choose 1{when f(){stop;}when any{stop;}}", TROUBLE);
         ways("choose f(){when any{stop;}}", TROUBLE);
         ways("choose 1{when any{stop;}when 2{}}", 0);
+        ways("choose 1{other{answer;}}", ANSWER);
         ways("while 1{}", END);
         ways("while f(){}", END | TROUBLE);
         ways("while 1{answer;}", END | ANSWER);
         ways("while 1{leave;}answer;", ANSWER);
         ways("each i from 1 to f(){}", END | TROUBLE);
         ways("each i from 1 to 2{stop;}", END);
+        ways("each i from 1 to 2{answer;}", END | ANSWER);
+        ways("each i from 1 to 2{if i{leave;}again;}stop;", 0);
         ways("repeat{}until 1;", END);
         ways("repeat{answer;}until 1;", ANSWER);
         ways("repeat{answer;}until f();", ANSWER);
@@ -646,6 +669,8 @@ public final class PromisesTest {
         logIs("calls", x, 0, 1, 0, 3, 0, 46);
         x = ran("duty f(){note g();}duty g(){var c=5;}", 0, 0, 0);
         logIs("a call without an answer", x, 0, 0);
+        x = ran("duty f(){note 5+g()*2;note 5+h();}duty g(){answer;}duty h(){}", 0, 0, 0);
+        logIs("answers of 0", x, 0, 5, 0, 5);
         x = ran("duty f(a){if a{f(a-1);}note a;}", 2, 0, 0);
         logIs("a place of its own in each call", x, 0, 0, 0, 1, 0, 2);
         Check.due("answer", ran("duty f(a){answer a+1;note 1;}", 2, 0, 0).told(1), 3);
@@ -865,7 +890,9 @@ public final class PromisesTest {
         does("x:while 1{while 1{leave x;}always{note 1;}}always{note 2;}note 3;", 0,
                 11, inMain(10), 0, 1, 11, p, 0, 2, 0, 3);
         does("repeat{fail 20;}always{note 1;}until 1;", 3, 7, 20, 11, p, 0, 1);
-        LockKeepers x = did("each i from 1 to 3{if i==2{leave;}}always{}", 0);
+        LockKeepers x = did("while 1{fail 20;}always{note 1;}", 3);
+        Check.due("the place of a trouble that waited", x.told(4), inMain(8));
+        x = did("each i from 1 to 3{if i==2{leave;}}always{}", 0);
         Check.due("rounds with an always part", x.told(8), 2);
         Check.due("always parts", x.told(9), 2);
     }
@@ -1003,6 +1030,8 @@ public final class PromisesTest {
         Check.due("always with trouble in a mend",
                 did("try{fail 20;}mend any{try{fail 25;}always{fail 30;}}", 3).told(3), 25);
         Check.due("a round's always", did("while 1{fail 20;}always{fail 30;}", 3).told(3), 20);
+        Check.due("behind an always part", did("while 1{fail 20;}always{leave;}fail 30;", 3).told(3), 0);
+        Check.due("behind an ensure", did("while 1{try{ensure 1{fail 20;}}always{leave;}}fail 30;", 3).told(3), 0);
         Check.due("a later with trouble", did("later{fail 30;}fail 20;", 3).told(3), 20);
         Check.due("a later without", did("later{fail 30;}", 3).told(3), 0);
         Check.due("a later that was pledged in a mend",
@@ -1073,6 +1102,27 @@ public final class PromisesTest {
         Check.due("no call", x.told(15), 0);
         Check.due("no way", x.told(18), 0);
         Check.due("no log", x.told(16), 0);
+    }
+
+    /** Nothing of what waits in a round, or in a run that is OVER, is left for the next one. */
+    private static void runLongAndAgain() {
+        LockKeepers x = with("duty f(n){each i from 1 to n{g(1);}answer 1+2*(3+n);}"
+                + "duty h(n){each i from 1 to n{try{note 1+(2+(3+i/0));}mend 1{}}answer 1+2*(3+n);}"
+                + "duty i(n){each i from 1 to n{choose i{when any{}}each j from 1 to 1{}}answer 1+2*(3+n);}"
+                + "duty g(a){choose a{when 1{}}choose a{}}");
+        for (int d = 0; d < 3; d++) {
+            Check.due("a long run", x.run(d, 2500, 0, 20000), 0);
+            Check.due("its answer", x.told(1), 5007);
+        }
+        x = with("duty f(){later{note 1;}hold 0{try{fail 20;}mend any{g(5);}}}duty g(a){var b=7;later{note 2;}stop;}"
+                + "duty h(){note kind;note cause;fail 30;}duty i(){h();}duty j(a){if a{j(a-1);}else{stop;}}");
+        for (int i = 0; i < 200; i++) {
+            Check.due("stopped", x.run(0, 0, 0, 100), 1);
+            Check.due("deep", x.run(4, 11, 0, 100), 1);
+            Check.due("then a duty of its own", x.run(2 + i % 2, 0, 0, 100), 3);
+            logIs("then", x, 0, 0, 0, 0, 7, 30);
+            Check.due("its cause", x.told(3), 0);
+        }
     }
 
     private static void runOver() {
