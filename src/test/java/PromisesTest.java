@@ -397,6 +397,10 @@ public final class PromisesTest {
         x.run(0, 0, 0, 10);
         Check.due("the new answer", x.told(1), 6);
         Check.due("the same text again", Check.read(x, "duty  g(){answer 6;}duty h(){}"), 0);
+        LockKeepers y = with("duty h(){}");
+        Check.due("a duty of the old book", Check.read(y, "duty f(){}duty h(){}"), 0);
+        Check.due("with a fault at a NEST", Check.read(x, "duty g(){{{if 1 a"), 2);
+        Check.due("no more NESTS then", Check.read(x, "duty g(){" + times("{", 14)), 3);
         Check.due("with a fault in a NEST", Check.read(x, "duty g(){{{{((-(1"), 2);
         Check.due("and all NESTS free then", Check.read(x, "duty g(){" + times("{", 13) + times("}", 14)), 0);
     }
@@ -1031,6 +1035,14 @@ public final class PromisesTest {
                 did("try{fail 20;}mend any{try{fail 25;}always{fail 30;}}", 3).told(3), 25);
         Check.due("a round's always", did("while 1{fail 20;}always{fail 30;}", 3).told(3), 20);
         Check.due("behind an always part", did("while 1{fail 20;}always{leave;}fail 30;", 3).told(3), 0);
+        Check.due("in a mend, behind an always part",
+                did("try{fail 20;}mend any{try{}always{}fail 30;}", 3).told(3), 20);
+        Check.due("in a mend, behind a call",
+                ran("duty f(){try{fail 20;}mend any{g();fail 30;}}duty g(){later{}}", 0, 0, 3).told(3), 20);
+        LockKeepers x = did("try{fail 20;}always{try{ fail 30;}mend any{}}", 3);
+        Check.due("kind of one that waited", x.told(2), 20);
+        Check.due("cause of one that waited", x.told(3), 0);
+        Check.due("place of one that waited", x.told(4), inMain(4));
         Check.due("behind an ensure", did("while 1{try{ensure 1{fail 20;}}always{leave;}}fail 30;", 3).told(3), 0);
         Check.due("a later with trouble", did("later{fail 30;}fail 20;", 3).told(3), 20);
         Check.due("a later without", did("later{fail 30;}", 3).told(3), 0);
@@ -1113,15 +1125,25 @@ public final class PromisesTest {
         for (int d = 0; d < 3; d++) {
             Check.due("a long run", x.run(d, 2500, 0, 20000), 0);
             Check.due("its answer", x.told(1), 5007);
+            Check.due("its calls and troubles", x.told(15) + x.told(12), d < 2 ? 2501 : 1);
         }
-        x = with("duty f(){later{note 1;}hold 0{try{fail 20;}mend any{g(5);}}}duty g(a){var b=7;later{note 2;}stop;}"
-                + "duty h(){note kind;note cause;fail 30;}duty i(){h();}duty j(a){if a{j(a-1);}else{stop;}}");
+        x = with("duty f(){later{note 1;}hold 0{try{fail 20;}mend any{g(5);}}}"
+                + "duty g(a){var b=7;later{note 2;}try{fail 20;}mend any{try{fail 21;}mend any{stop;}}}"
+                + "duty h(){note kind;note cause;fail 30;}duty i(){h();}duty j(a){if a{j(a-1);}else{stop;}}"
+                + "duty k(){note kind;note cause;}duty l(){k();}");
         for (int i = 0; i < 200; i++) {
             Check.due("stopped", x.run(0, 0, 0, 100), 1);
             Check.due("deep", x.run(4, 11, 0, 100), 1);
             Check.due("then a duty of its own", x.run(2 + i % 2, 0, 0, 100), 3);
             logIs("then", x, 0, 0, 0, 0, 7, 30);
             Check.due("its cause", x.told(3), 0);
+            Check.due("stopped again", x.run(0, 0, 0, 100), 1);
+            Check.due("then one that ends", x.run(5 + i % 2, 0, 0, 100), 0);
+            logIs("then", x, 0, 0, 0, 0);
+            Check.due("its calls", x.told(15), 1 + i % 2);
+            Check.due("its way", x.told(18), END);
+            Check.due("its fuel", x.told(5), 100 - 3 - 2 * (i % 2));
+            Check.due("holds let go", x.told(7), 0);
         }
     }
 
