@@ -2,8 +2,18 @@
 final class Check {
     private static int wrong;
     private static int asked;
+    private static String about = "";
 
     private Check() {
+    }
+
+    /** What stands ahead of each wrong answer from here on. */
+    static void about(String words) {
+        about = words;
+    }
+
+    static int asked() {
+        return asked;
     }
 
     static void due(String what, long got, long want) {
@@ -11,7 +21,7 @@ final class Check {
         if (got != want) {
             wrong++;
             if (wrong <= 50) {
-                System.out.println(what + " answered " + got + ", due is " + want);
+                System.out.println(about + what + " answered " + got + ", due is " + want);
             }
         }
     }

@@ -1,10 +1,5 @@
 /** Each promise of the document: ordinary inputs, the edges that it names, and wrong inputs. */
-public final class PromisesTest {
-    private static final int END = 1;
-    private static final int ANSWER = 2;
-    private static final int TROUBLE = 4;
-    private static final int SAMPLE = 100000;
-
+public final class PromisesTest extends Bench {
     private PromisesTest() {
     }
 
@@ -49,79 +44,6 @@ public final class PromisesTest {
         log();
         look();
         Check.finish("PromisesTest");
-    }
-
-    // ---- helpers
-
-    private static LockKeepers with(String text) {
-        LockKeepers x = new LockKeepers();
-        Check.due("read " + text, Check.read(x, text), 0);
-        return x;
-    }
-
-    private static LockKeepers ran(String text, int a, int b, int outcome) {
-        LockKeepers x = with(text);
-        Check.due("run " + text, x.run(0, a, b, SAMPLE / 10), outcome);
-        return x;
-    }
-
-    /** A main with this body, run with 3 and 4. */
-    private static LockKeepers did(String body, int outcome) {
-        return ran("duty main(a,b){" + body + "}", 3, 4, outcome);
-    }
-
-    private static void logIs(String who, LockKeepers x, int... pairs) {
-        Check.due(who + " log's length", x.told(16), pairs.length / 2);
-        for (int i = 0; i < pairs.length / 2; i++) {
-            Check.due(who + " log " + i + " sort", x.log(i, 0), pairs[2 * i]);
-            Check.due(who + " log " + i + " number", x.log(i, 1), pairs[2 * i + 1]);
-        }
-    }
-
-    /** The body's run is logged so; the places in it are those within the body. */
-    private static LockKeepers does(String body, int outcome, int... pairs) {
-        LockKeepers x = did(body, outcome);
-        logIs(body, x, pairs);
-        return x;
-    }
-
-    private static int inMain(int place) {
-        return place + "duty main(a,b){".length();
-    }
-
-    private static void notes(String e, int value) {
-        does("note " + e + ";", 0, 0, value);
-    }
-
-    private static void faulty(String text, int kind, int place) {
-        LockKeepers x = new LockKeepers();
-        Check.due("read " + text, Check.read(x, text), kind);
-        Check.due("fault(0) " + text, x.fault(0), kind);
-        Check.due("fault(1) " + text, x.fault(1), place);
-        Check.due("no book " + text, x.duty(-1, 0), -1);
-    }
-
-    /** A main whose body has a fault at the mark ^, which is left out. */
-    private static void faultyBody(String body, int kind) {
-        String text = "duty main(a,b){" + body;
-        faulty(text.replace("^", ""), kind, text.indexOf('^'));
-    }
-
-    private static void fine(String text) {
-        with(text);
-    }
-
-    private static void ways(String body, int ways) {
-        LockKeepers x = with("duty main(a,b){" + body + "}duty f(){}");
-        Check.due("ways of " + body, x.duty(0, 3), ways);
-    }
-
-    private static String times(String part, int count) {
-        StringBuilder out = new StringBuilder();
-        for (int i = 0; i < count; i++) {
-            out.append(part.replace("#", "" + i));
-        }
-        return out.toString();
     }
 
     // ---- promises 1 to 3
@@ -589,17 +511,6 @@ public final class PromisesTest {
 
     // ---- promise 10
 
-    private static int thrown(LockKeepers x, int d, int fuel) {
-        try {
-            x.run(d, 0, 0, fuel);
-            return 0;
-        } catch (IllegalStateException e) {
-            return 1;
-        } catch (IllegalArgumentException e) {
-            return 2;
-        }
-    }
-
     private static void runRefusals() {
         LockKeepers x = new LockKeepers();
         Check.due("no book", thrown(x, 0, 10), 1);
@@ -949,7 +860,7 @@ public final class PromisesTest {
         Check.due("the trouble stays", x.told(4), inMain(9));
         x = did("ensure 1{answer 5;}", 0);
         Check.due("the answer stays", x.told(1), 5);
-        Check.due("fuel: call, ensure, answer, E", x.told(5), SAMPLE / 10 - 4);
+        Check.due("fuel: call, ensure, answer, E", x.told(5), PLENTY - 4);
         does("ensure 0{answer 5;}", 3, 7, 10);
         does("while 1{ensure 1{leave;}}note 1;", 0, 0, 1);
         does("while 1{try{ensure 0{again;}}mend 10{leave;}}note 1;", 0, 7, 10, 8, 10, 0, 1);
@@ -1061,7 +972,7 @@ public final class PromisesTest {
         Check.due("deep place", x.told(4), 18);
         Check.due("calls", x.told(15), 12);
         Check.due("log", x.told(16), 13);
-        Check.due("fuel: 13 calls, 24 statements", x.told(5), SAMPLE / 10 - 13 - 24);
+        Check.due("fuel: 13 calls, 24 statements", x.told(5), PLENTY - 13 - 24);
         x = ran("duty f(a){if a{f(a-1);}}", 11, 0, 0);
         Check.due("twelve are fine", x.told(15), 12);
         x = did("each i from 1 to 40{later{}}note 1;", 0);
@@ -1079,7 +990,7 @@ public final class PromisesTest {
 
     private static void fuelIs(String body, int used) {
         LockKeepers x = did(body, 0);
-        Check.due("fuel left of " + body, x.told(5), SAMPLE / 10 - used);
+        Check.due("fuel left of " + body, x.told(5), PLENTY - used);
         Check.due("fuel used by " + body, x.told(17), used);
         LockKeepers y = with("duty main(a,b){" + body + "}");
         Check.due("just enough for " + body, y.run(0, 3, 4, used), 0);
@@ -1131,7 +1042,7 @@ public final class PromisesTest {
                 + "duty g(a){var b=7;later{note 2;}try{fail 20;}mend any{try{fail 21;}mend any{stop;}}}"
                 + "duty h(){note kind;note cause;fail 30;}duty i(){h();}duty j(a){if a{j(a-1);}else{stop;}}"
                 + "duty k(){note kind;note cause;}duty l(){k();}");
-        for (int i = 0; i < 200; i++) {
+        for (int i = 0; i < 12; i++) {
             Check.due("stopped", x.run(0, 0, 0, 100), 1);
             Check.due("deep", x.run(4, 11, 0, 100), 1);
             Check.due("then a duty of its own", x.run(2 + i % 2, 0, 0, 100), 3);
