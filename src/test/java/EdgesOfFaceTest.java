@@ -232,6 +232,23 @@ public final class EdgesOfFaceTest extends Bench {
         Check.due("what is cut does not come again", x.end(10), false);
     }
 
+    @Holds(promise = 3, says = "The TAPE has its first n bytes: true")
+    static void endWithinAToken() {
+        // what is cut off is no part of the last token, and the end is where the tape ends
+        String[] texts = {"duty f(){a=1<|=", "duty f(){a=1=|=", "duty f(){a=1!|=", "duty f(){a=1<|=2;}", "duty f(){note 1|2;}",
+            "duty f(){note kin|d;}", "duty f(){note(1|);}", "duty f(){}|!", "duty f(){}#|\n!", "dut|y f(){}", "duty f(){}d|uty"};
+        int[] kinds = {2, 2, 1, 2, 2, 2, 2, 0, 0, 2, 2};
+        int[] places = {13, 12, 12, 13, 15, 17, 15, NONE, NONE, 0, 10};
+        for (int i = 0; i < texts.length; i++) {
+            LockKeepers x = new LockKeepers();
+            String whole = texts[i].replace("|", "");
+            Check.due("feed " + whole, feed(x, whole), true);
+            Check.due("end", x.end(texts[i].indexOf('|')), true);
+            Check.due("read " + texts[i], x.read(), kinds[i]);
+            Check.due("place in " + texts[i], x.fault(1), places[i]);
+        }
+    }
+
     @Holds(promise = 3, says = "false, and nothing happens, if it has not so many")
     static void endBeyondTheTape() {
         LockKeepers x = new LockKeepers();
@@ -701,6 +718,59 @@ public final class EdgesOfFaceTest extends Bench {
         logIs("as it was", x, 0, 8, 1, 1, 3, 2, 2, 1, 7, 20);
         Check.due("the gate", x.look(1, 1), 1);
         Check.due("the book", x.duty(-1, 0), 1);
+    }
+
+    @Holds(promise = 10, term = 5, says = "A call that is refused or throws changes nothing but what is told.")
+    static void refusedCallsChangeNothing() {
+        LockKeepers x = with("duty f(a){hold 1{open 1,0;}note a;fail 20;}");
+        Check.due("a faulty text", Check.read(x, "duty f(){>"), 1);
+        Check.due("run", x.run(0, 8, 0, 100), TROUBLED);
+        Check.due("chamber", x.chamber(0, 7), true);
+        Check.due("fill", x.fill(6, 70), true);
+        Check.due("berth", x.berth(7, 11), true);
+        Check.due("the tape", feed(x, "duty  gg(){}"), true);
+        for (int i = 1; i < 150; i++) {
+            Check.due("the tape", feed(x, ""), true);
+        }
+        String before = allOf(x);
+        Check.due("feed", feed(x, "!"), false);
+        Check.due("end", x.end(3001), false);
+        Check.due("end", x.end(-1), false);
+        Check.due("fill", x.fill(7, 5), false);
+        Check.due("fill", x.fill(6, 100001), false);
+        Check.due("chamber", x.chamber(6, 5), false);
+        Check.due("chamber", x.chamber(0, 10001), false);
+        Check.due("chamber", x.chamber(1, 5), false);
+        Check.due("berth", x.berth(8, 0), false);
+        Check.due("berth", x.berth(7, 13), false);
+        Check.due("berth", x.berth(0, 11), false);
+        Check.due("run", thrown(x, 1, 10), ARGUMENT);
+        Check.due("run", thrown(x, 0, 20001), ARGUMENT);
+        String after = allOf(x);
+        Check.due("all is as it was:\n" + before + "\n" + after + "\n", after.equals(before), true);
+        Check.due("the tape has all", x.end(3000), true);
+        Check.due("and is read", x.read(), 0);
+        Check.due("as it was", x.duty(0, 2), 6);
+    }
+
+    /** Every answer of the calls that only tell. */
+    private static String allOf(LockKeepers x) {
+        StringBuilder all = new StringBuilder();
+        for (int what : ALL_TOLD) {
+            all.append(" t").append(x.told(what));
+        }
+        for (int i = 0; i < 6; i++) {
+            all.append(" l").append(x.log(i, 0)).append(",").append(x.log(i, 1));
+        }
+        for (int k = 0; k < 8; k++) {
+            for (int what = 0; what < 7; what++) {
+                all.append(" k").append(x.look(what, k));
+            }
+        }
+        for (int what = 0; what < 4; what++) {
+            all.append(" d").append(x.duty(0, what)).append(",").append(x.duty(NONE, what));
+        }
+        return all.append(" f").append(x.fault(0)).append(",").append(x.fault(1)).toString();
     }
 
     @Holds(promise = 10, term = 5,

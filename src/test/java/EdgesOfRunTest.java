@@ -152,6 +152,9 @@ public final class EdgesOfRunTest extends Bench {
         does("try{fail 20;}mend any{try{fail 30;}mend any{}note kind;note cause;}note kind;", ENDED,
                 7, 20, 8, 20, 7, 30, 8, 30, 0, 30, 0, 20, 0, 30);
         does("later{note kind;}try{fail 20;}mend any{}", ENDED, 7, 20, 8, 20, 10, inMain(0), 0, 20);
+        // each call of one duty begins without
+        logs("duty f(){g();g();}duty g(){note kind;note cause;try{try{fail 20;}mend any{fail 30;}}mend any{}}", ENDED,
+                0, 0, 0, 0, 7, 20, 8, 20, 7, 30, 8, 30, 0, 0, 0, 0, 7, 20, 8, 20, 7, 30, 8, 30);
         // another call's is none of this one, before it and behind it
         logs("duty f(){try{fail 20;}mend any{g();}note kind;}duty g(){note kind;try{fail 30;}mend any{note kind;}}", ENDED,
                 7, 20, 8, 20, 0, 0, 7, 30, 8, 30, 0, 30, 0, 20);
@@ -216,6 +219,38 @@ public final class EdgesOfRunTest extends Bench {
         Check.due("a thirteenth in laters", y.run(0, 12, 0, 100), TROUBLED);
         troubleIs(y, 2, 0, 22);
         Check.due("laters", y.told(11), 12);
+    }
+
+    @Holds(promise = 10, term = 2, says = "a 13th DUTY under way")
+    static void twelveUnderWayWithAllThatTheyHave() {
+        // each of twelve calls has variables of its own
+        LockKeepers x = ran("duty f(n){var c=n*10;if n{f(n-1);}note c+n;}", 11, 0, ENDED);
+        for (int i = 0; i < 12; i++) {
+            Check.due("the call with " + i, x.log(i, 1), 11 * i);
+        }
+        // and as many things that are due on the way out as NESTS allow: twelve BLOCKS, and a call in the last
+        String[] opens = {"hold 2{", "ensure 1{", "try{", "repeat{"};
+        String[] closes = {"}", "}", "}always{}", "}always{}until 1;"};
+        for (int i = 0; i < opens.length; i++) {
+            String head = "duty f(n){" + times(opens[i], 12);
+            String tail = times(closes[i], 12) + "}";
+            LockKeepers y = with(head + "later{}f(n);" + tail);
+            Check.due("run with " + opens[i], y.run(0, 12, 0, PLENTY), TROUBLED);
+            Check.due("its kind", y.told(2), 2);
+            Check.due("calls", y.told(15), 12);
+            Check.due("taken", y.told(6), i == 0 ? 144 : 0);
+            Check.due("let go", y.told(7), i == 0 ? 144 : 0);
+            Check.due("always parts", y.told(9), i < 2 ? 0 : 144);
+            Check.due("laters", y.told(11), 12);
+        }
+        // and values that wait for those of calls: seven E's and three left sides in each BRACKET
+        StringBuilder e = new StringBuilder("n");
+        for (int i = 0; i < 12; i++) {
+            e.insert(0, "g(1,1,1,1,1,1,1,0<1+1*").append(")");
+        }
+        LockKeepers z = with("duty f(n){if n{answer f(n-1)+1;}answer " + e + ";}duty g(a,b,c,d,h,i,j,k){answer a+j+k;}");
+        Check.due("run", z.run(0, 10, 0, PLENTY), ENDED);
+        Check.due("its answer", z.told(1), 3 + 10);
     }
 
     @Holds(promise = 10, term = 2, says = "a 41st later that waits in one call")
@@ -321,6 +356,15 @@ public final class EdgesOfRunTest extends Bench {
     @Holds(promise = 10, term = 3, says = "A CALL as a STATEMENT: its answer is nothing.")
     static void callsAsStatements() {
         sees("s(1);each i from 1 to 2{s(5);}note a;", ENDED, 0, 1, 0, 5, 0, 5, 0, 3);
+        sees("each i from 1 to 2{s(5);note i+20;s(6);note 9;}", ENDED, 0, 5, 0, 21, 0, 6, 0, 9, 0, 5, 0, 22, 0, 6, 0, 9);
+        // nothing of it waits, however many there are
+        String[] statements = {"g();", "choose 1{}", "choose 1{other{}}", "choose 1{when any{}}", "choose 1{when 1{}}"};
+        for (String statement : statements) {
+            LockKeepers x = with("duty f(n){" + times(statement, 140) + "if n{answer f(n-1)+1;}answer 1+2*(3+n);}"
+                    + "duty g(){answer 8;}");
+            Check.due("run of many " + statement, x.run(0, 10, 0, PLENTY), ENDED);
+            Check.due("its answer", x.told(1), 7 + 10);
+        }
         Check.due("no answer of the caller", ran("duty f(){g();}duty g(){answer 5;}", 0, 0, ENDED).told(1), 0);
     }
 
@@ -719,6 +763,18 @@ public final class EdgesOfRunTest extends Bench {
         does("try{fail 20;}always{^try{fail 30;}mend any{}}", TROUBLED, 7, 20, 11, p, 7, 30, 8, 30);
     }
 
+    @Holds(promise = 10, term = 2, says = "A TROUBLE has a KIND, a CAUSE (a kind, 0 without one) and a PLACE")
+    static void troublesThatWaitStayWhatTheyAre() {
+        failsIn("try{^fail 20;}always{note 1;try{fail 30;}mend any{note 2;}}", 20, 0);
+        failsIn("while 1{^fail 20;}always{note 1;}", 20, 0);
+        failsIn("later{note 1;later{note 2;}}note 0;^fail 20;", 20, 0);
+        failsIn("ensure 1{^fail 20;}", 20, 0);
+        failsIn("try{^fail 20;}mend 30{note 1;}", 20, 0);
+        failsIn("hold 0{try{^fail 20;}always{hold 0{note 1;}}}", 20, 0);
+        failsIn("try{fail 30;}mend any{later{note 1;}try{ensure 1{^fail 20;}}mend 1{}always{note 2;}}", 20, 30);
+        fails("duty f(){try{g();}always{note 1;}}duty g(){later{note 2;}^fail 20;}", 20, 0);
+    }
+
     @Holds(promise = 10, term = 3, says = "the BLOCK of a mend, from its beginning to its being left: the kind that was mended")
     static void causeInAMend() {
         Check.due("in it", cause("try{fail 20;}mend any{fail 30;}"), 20);
@@ -869,7 +925,10 @@ public final class EdgesOfRunTest extends Bench {
         LockKeepers whole = with("duty main(a,b){" + body + "}" + SEEN);
         Check.due("with plenty", whole.run(0, 3, 4, 1000), ENDED);
         int used = whole.told(17);
-        int entries = whole.told(16);
+        long[] entries = new long[whole.told(16)];
+        for (int i = 0; i < entries.length; i++) {
+            entries[i] = whole.log(i, 0) * 1000L + whole.log(i, 1);
+        }
         for (int fuel = 0; fuel <= used; fuel++) {
             LockKeepers x = with("duty main(a,b){" + body + "}" + SEEN);
             Check.due("with " + fuel, x.run(0, 3, 4, fuel), fuel < used ? NO_FUEL : ENDED);
@@ -878,9 +937,10 @@ public final class EdgesOfRunTest extends Bench {
             Check.due("held no more", x.look(3, 0), 0);
             Check.due("way", x.told(18), fuel < used ? 0 : ANSWER);
             // what is done is what the whole run does, up to there
-            Check.due("no more entries", x.told(16) <= entries, true);
-            for (int i = 0; i < x.told(16); i++) {
-                Check.due("entry " + i, x.log(i, 0) * 1000L + x.log(i, 1), whole.log(i, 0) * 1000L + whole.log(i, 1));
+            int done = x.told(16);
+            Check.due("no more entries", done <= entries.length, true);
+            for (int i = 0; i < Math.min(done, entries.length); i++) {
+                Check.due("entry " + i, x.log(i, 0) * 1000L + x.log(i, 1), entries[i]);
             }
         }
     }
@@ -906,7 +966,21 @@ public final class EdgesOfRunTest extends Bench {
         logs("duty f(){later{note 1;}hold 1{g();}note 2;}duty g(){later{note 3;}hold 1{stop;}}", STOPPED, 1, 1);
         logs("duty f(){try{note g();}mend any{note 1;}always{note 2;}}duty g(){^try{fail 20;}always{stop;}}", STOPPED,
                 7, 20, 11, AT);
-        // the next run finds no HOLD
+        // the next runs find nothing of it
+        LockKeepers y = with("duty f(n){later{note 1;}try{fail 20;}mend any{answer 1+(2+(3+f(n)));}}"
+                + "duty g(n){later{note 2;}if n{answer 1+(2+(3+g(n-1)));}try{fail 30;}mend any{stop;}}"
+                + "duty h(n){note kind;note cause;if n{h(n-1);}else{fail 40;}}duty i(n){answer 1+2*(3+n);}");
+        for (int i = 0; i < 40; i++) {
+            Check.due("OVER by FUEL", y.run(0, 99, 0, 30), NO_FUEL);
+            Check.due("OVER by stop", y.run(1, 11, 0, 100), STOPPED);
+        }
+        Check.due("behind them", y.run(2, 2, 0, 100), TROUBLED);
+        logIs("behind them", y, 0, 0, 0, 0, 0, 0, 0, 0, 0, 0, 0, 0, 7, 40);
+        Check.due("cause", y.told(3), 0);
+        Check.due("behind them", y.run(3, 4, 0, 100), ENDED);
+        Check.due("answer", y.told(1), 15);
+        Check.due("entries", y.told(16), 0);
+        // and no HOLD
         LockKeepers x = with("duty f(){hold 1{stop;}}duty g(){note held(1);hold 1{note held(1);}}");
         Check.due("run", x.run(0, 0, 0, 100), STOPPED);
         Check.due("run", x.run(1, 0, 0, 100), ENDED);

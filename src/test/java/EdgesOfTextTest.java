@@ -558,6 +558,22 @@ public final class EdgesOfTextTest extends Bench {
         deepFine("while 1{}always{}repeat{}always{}until(1);if 1{}else{}each i from(1)to(2){}always{}");
     }
 
+    @Holds(promise = 4, term = 1, says = "are at most 14 within one another")
+    static void nestsOfTextsBehindOneAnother() {
+        String fourteen = "duty f()" + times("{", 14) + times("}", 14);
+        String[] faulty = {"duty f(){{{{", "duty f(){{note((1", "duty f(){{{if 1 a", "duty f(){choose 1{when 1{{", "duty f()1",
+            "duty f(){note --not", "duty f(){note f(level(>", "duty f(){x:while 1{y:while 1{x:while 1{", "duty f()"
+            + times("{", 15), "duty f(){while 1{later{while 1{"};
+        LockKeepers x = new LockKeepers();
+        for (String text : faulty) {
+            Check.due(text, Check.read(x, text) != 0, true);
+            Check.due("fourteen behind it", Check.read(x, fourteen), 0);
+            Check.due("a loop's label behind it", Check.read(x, "duty f(){x:while 1{}leave;}"), 6);
+            Check.due("fifteen behind it", Check.read(x, "duty f()" + times("{", 15)), 3);
+            Check.due("its place", x.fault(1), 8 + 14);
+        }
+    }
+
     // ---- FAULTS 1 to 3
 
     @Holds(promise = 4, term = 1, says = "the first token that has one of these, at one token the least")
@@ -607,7 +623,7 @@ public final class EdgesOfTextTest extends Bench {
             LockKeepers x = new LockKeepers();
             String part = text.substring(0, cut);
             Check.due("read " + part, Check.read(x, part), 2);
-            // dut is a NAME and not a word that can't stand there: neither is the end
+            // dut (a NAME) and not are words that can't stand there; else it is the end that can't
             int word = part.endsWith("not") ? cut - 3 : cut;
             Check.due("place in " + part, x.fault(1), cut < 4 ? 0 : word);
         }

@@ -184,6 +184,8 @@ public final class EdgesOfWaysTest extends Bench {
     static void troublesOfMendsEs() {
         ways("try{fail 1;}mend f(){stop;}mend any{stop;}", TROUBLE);
         ways("try{fail 1;}mend 1,2,1/0{stop;}mend any{stop;}", TROUBLE);
+        ways("try{fail 1;}mend f(),2,3{stop;}mend any{stop;}", TROUBLE);
+        ways("try{fail 1;}mend f(){stop;}mend 1{stop;}mend any{stop;}", TROUBLE);
         ways("try{fail 1;}mend 1{stop;}mend level(1){stop;}mend any{answer;}", ANSWER | TROUBLE);
         ways("try{fail 1;}mend any{stop;}mend f(){stop;}", NEVER);
         ways("try{fail 1;}mend any{stop;}mend f(){stop;}mend any{stop;}", NEVER);
@@ -326,6 +328,8 @@ public final class EdgesOfWaysTest extends Bench {
     static void ownEsOfLists() {
         ways("choose 1{when f(){stop;}other{stop;}}", TROUBLE);
         ways("choose 1{when 1,2,f(){stop;}when any{stop;}}", TROUBLE);
+        ways("choose 1{when f(),2,3{stop;}when any{stop;}}", TROUBLE);
+        ways("choose 1{when 1,1/0,3{stop;}when 4{stop;}other{stop;}}", TROUBLE);
         ways("choose 1{when 1{stop;}when f(){stop;}when any{stop;}}", TROUBLE);
         ways("choose 1{when any{stop;}when f(){stop;}}", NEVER);
         ways("choose 1{when 1{stop;}when any{stop;}when 1/0{stop;}other{stop;}}", NEVER);
