@@ -359,11 +359,13 @@ public final class EdgesOfRunTest extends Bench {
         sees("each i from 1 to 2{s(5);note i+20;s(6);note 9;}", ENDED, 0, 5, 0, 21, 0, 6, 0, 9, 0, 5, 0, 22, 0, 6, 0, 9);
         // nothing of it waits, however many there are
         String[] statements = {"g();", "choose 1{}", "choose 1{other{}}", "choose 1{when any{}}", "choose 1{when 1{}}"};
-        for (String statement : statements) {
-            LockKeepers x = with("duty f(n){" + times(statement, 140) + "if n{answer f(n-1)+1;}answer 1+2*(3+n);}"
+        int[] counts = {300, 280, 160, 140, 150};
+        for (int i = 0; i < statements.length; i++) {
+            LockKeepers x = with("duty f(n){" + times(statements[i], counts[i]) + "if n{answer f(n-1)+1;}answer 1+2*(3+n);}"
                     + "duty g(){answer 8;}");
-            Check.due("run of many " + statement, x.run(0, 10, 0, PLENTY), ENDED);
-            Check.due("its answer", x.told(1), 7 + 10);
+            int below = i == 0 ? 10 : 11;
+            Check.due("run of many " + statements[i], x.run(0, below, 0, PLENTY), ENDED);
+            Check.due("its answer", x.told(1), 7 + below);
         }
         Check.due("no answer of the caller", ran("duty f(){g();}duty g(){answer 5;}", 0, 0, ENDED).told(1), 0);
     }
