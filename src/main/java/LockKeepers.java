@@ -1051,19 +1051,17 @@ public final class LockKeepers {
         }
 
         private void readParameters() {
-            readParameter();
-            for (int i = 0; i < MOST_BYTES && tokens.kind == ','; i++) {
+            for (int i = 0; i < MOST_BYTES; i++) {
+                long name = tokens.name;
+                int place = tokens.place;
+                tokens.expect(Tokens.NAME);
+                if (!tokens.isStopped()) {
+                    names.tellParameter(name, place);
+                }
+                if (tokens.kind != ',') {
+                    break;
+                }
                 tokens.advance();
-                readParameter();
-            }
-        }
-
-        private void readParameter() {
-            long name = tokens.name;
-            int place = tokens.place;
-            tokens.expect(Tokens.NAME);
-            if (!tokens.isStopped()) {
-                names.tellParameter(name, place);
             }
         }
 
@@ -1592,7 +1590,7 @@ public final class LockKeepers {
             if (!isGate(k, s)) {
                 return 3;
             }
-            return holdsOf(k) == 0 ? 4 : 0;
+            return holds[k] == 0 ? 4 : 0;
         }
 
         int troubleToOpen(int k, int s) {

@@ -59,9 +59,16 @@ final class Edges {
             return true;
         }
         String text = plain(Files.readString(Path.of(path)));
-        int from = text.indexOf(held.term() == 0 ? "## Promise " + held.promise() + ":" : " " + held.term() + ". ");
+        int from = text.indexOf(beginning(held));
         int end = text.indexOf(held.term() == 0 ? "## " : " ## Promise 1:", from + 3);
         return from >= 0 && end > from && text.substring(from, end).contains(plain(held.says()));
+    }
+
+    private static String beginning(Holds held) {
+        if (held.term() != 0) {
+            return " " + held.term() + ". ";
+        }
+        return held.promise() == 0 ? "## What it is" : "## Promise " + held.promise() + ":";
     }
 
     static String plain(String text) {

@@ -7,7 +7,7 @@ import java.lang.annotation.Target;
 @Retention(RetentionPolicy.RUNTIME)
 @Target(ElementType.METHOD)
 @interface Holds {
-    /** The promise by whose call the sentence is seen. */
+    /** The promise by whose call the sentence is seen, 0 for the document's opening. */
     int promise();
 
     /** Which of the document's terms the sentence stands in, 0 if it is the promise's own. */
